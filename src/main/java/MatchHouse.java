@@ -87,6 +87,13 @@ public final class MatchHouse {
     private static final int ENTRY_BYTES = 16;
     private static final int EVENT_BYTES = 8;
 
+    /** The groups of processor's instructions that are done alike. */
+    private static final int OF_SUM = 0;
+    private static final int OF_PRODUCT = 1;
+    private static final int OF_MOVE = 2;
+    private static final int OF_FLOW = 3;
+    private static final int OF_STACK = 4;
+
     private static final int STOP_HLT = 1;
     private static final int STOP_MEMORY = 2;
     private static final int STOP_FETCH = 3;
@@ -823,7 +830,7 @@ public final class MatchHouse {
             if (!startsName(ahead())) {
                 return refuseAt(at);
             }
-            while (at < length && at - spot < NAME_LIMIT && goesOnName(ahead())) {
+            for (int k = 0; k < NAME_LIMIT && goesOnName(ahead()); k++) {
                 at++;
             }
             if (goesOnName(ahead())) {
@@ -836,7 +843,7 @@ public final class MatchHouse {
         private int readChoice(int depth) {
             int base = partCount;
             addAlternative(base, readSequence(depth));
-            while (at < length && wrong == NONE && ahead() == '/') {
+            for (int k = at; k < length && wrong == NONE && ahead() == '/'; k++) {
                 at++;
                 addAlternative(base, readSequence(depth));
             }
@@ -863,7 +870,7 @@ public final class MatchHouse {
         private int readSequence(int depth) {
             int base = partCount;
             skipBlanks();
-            while (at < length && wrong == NONE && startsPrefix(ahead())) {
+            for (int k = at; k < length && wrong == NONE && startsPrefix(ahead()); k++) {
                 addPart(readPrefix(depth));
                 skipBlanks();
             }
@@ -976,7 +983,7 @@ public final class MatchHouse {
         private int readLiteral() {
             int base = partCount;
             at++;
-            while (at < length && wrong == NONE && ahead() != '\'') {
+            for (int k = at; k < length && wrong == NONE && ahead() != '\''; k++) {
                 int spot = at;
                 int b = readByte(false);
                 if (wrong == NONE) {
@@ -1012,7 +1019,7 @@ public final class MatchHouse {
             if (others) {
                 at++;
             }
-            while (at < length && wrong == NONE && ahead() != ']') {
+            for (int k = at; k < length && wrong == NONE && ahead() != ']'; k++) {
                 readItem(node);
             }
             if (at >= length) {
@@ -1114,7 +1121,7 @@ public final class MatchHouse {
         private static final int TEST = 34;
 
         private static final int TASK_FIELDS = 3;
-        private static final int TASK_LIMIT = 8000;
+        private static final int TASK_LIMIT = 4000;
         private static final int PLAN_LIMIT = 16;
         private static final int LABEL_LIMIT = 3 * PROGRAM_LIMIT;
         private static final int STEP_LIMIT = 10000000;
@@ -1849,13 +1856,6 @@ public final class MatchHouse {
         }
     }
 
-    /** The groups of processor's instructions that are done alike. */
-    private static final int OF_SUM = 0;
-    private static final int OF_PRODUCT = 1;
-    private static final int OF_MOVE = 2;
-    private static final int OF_FLOW = 3;
-    private static final int OF_STACK = 4;
-
     /** What an instruction is: its group, how many bytes M has, and whether M and r are written. */
     private enum Kind {
         UNKNOWN(OF_FLOW, 4, false, false),
@@ -2308,7 +2308,7 @@ public final class MatchHouse {
         /** How many STEPS were made. */
         int makeSteps(int most) {
             int made = 0;
-            while (made < most && stop == 0) {
+            for (int k = 0; k < most && stop == 0; k++) {
                 stop = tryStep();
                 if (stop == 0) {
                     made++;
@@ -2816,7 +2816,7 @@ public final class MatchHouse {
             readied = 0;
             Arrays.fill(masks, NONE);
             int bundle = 0;
-            while (at < readable) {
+            for (int k = 0; k < readable && at < readable; k++) {
                 now.decode(code, size, at);
                 if (at / BUNDLE != bundle || isIn(goals, at)) {
                     Arrays.fill(masks, NONE);
@@ -2842,7 +2842,7 @@ public final class MatchHouse {
             Arrays.fill(goals, 0);
             at = 0;
             boolean fine = true;
-            while (fine && at < size) {
+            for (int k = 0; k < size && fine && at < size; k++) {
                 now.decode(code, size, at);
                 fine = now.kind != Kind.UNKNOWN && at + now.length <= size;
                 if (fine) {

@@ -12,6 +12,7 @@ public final class CheckTest {
         stacks();
         alone();
         masked();
+        writers();
         masksThatEnd();
         masksThatStay();
         wildJumps();
@@ -86,15 +87,36 @@ public final class CheckTest {
             "83 e4 7f |8b 84 24 00 00 02 00", "81 e0 fc ff 00 00 |89 80 04 00 02 00", "83 c8 7f |" + LOAD, "83 e8 7f |" + LOAD);
     }
 
-    /** An and, another instruction, and a use of the register, which has no MASK then. */
-    private static void masksThatEnd() {
-        String[] writers = {"40", "48", "ff c0", "ff c8", "01 c8", "03 c1", "11 c8", "29 c0", "81 c0 00 00 00 00", "83 c8 00", "83 e0 ff", "21 c0", "23 c0",
-            "f7 d0", "f7 d8", "f7 e1", "f7 e9", "f7 f1", "f7 f9", "0f af c1", "c1 e0 00", "d1 e8", "d3 c0", "0f c8", "89 c8", "8b c1",
-            "88 c8", "88 cc", "8a c1", "8a e1", "b8 00 00 00 00", "c7 c0 00 00 00 00", "c6 c0 00", "c6 c4 00", "87 c8", "87 c1",
-            "8d 00", "0f b6 c0", "0f be c1", "0f 40 c1", "0f 94 c0", "0f 9f c4", "0f 45 c0"};
-        for (String writer : writers) {
-            refused(4, "83 e0 7f " + writer + "|" + LOAD);
+    /** Instructions and the registers that they write, in part too; all others keep their MASKS. */
+    private static final String[][] WRITERS = {
+        {"01 ca", "2"}, {"03 ca", "1"}, {"39 ca", ""}, {"3b ca", ""}, {"09 ca", "2"}, {"0b ca", "1"}, {"11 ca", "2"}, {"1b ca", "1"},
+        {"21 ca", "2"}, {"23 ca", "1"}, {"29 ca", "2"}, {"33 ca", "1"}, {"01 0d 00 00 02 00", ""}, {"03 0d 00 00 02 00", "1"},
+        {"81 c2 00 00 00 00", "2"}, {"81 e2 00 00 01 00", "2"}, {"81 e2 ff ff ff ff", "2"}, {"81 fa 00 00 00 00", ""}, {"83 c2 00", "2"},
+        {"83 e2 ff", "2"}, {"83 fa 00", ""}, {"83 25 00 00 02 00 00", ""}, {"43", "3"}, {"4e", "6"}, {"ff c3", "3"}, {"ff cf", "7"}, {"ff 05 00 00 02 00", ""},
+        {"ff 0d 00 00 02 00", ""}, {"85 ca", ""}, {"f7 c2 00 00 00 00", ""}, {"f7 d3", "3"}, {"f7 db", "3"}, {"f7 15 00 00 02 00", ""},
+        {"f7 1d 00 00 02 00", ""}, {"f7 e3", "0 2"}, {"f7 eb", "0 2"}, {"f7 f3", "0 2"}, {"f7 fb", "0 2"}, {"f7 25 00 00 02 00", "0 2"},
+        {"0f af ca", "1"}, {"c1 e3 00", "3"}, {"c1 c3 05", "3"}, {"d1 eb", "3"}, {"d3 fb", "3"}, {"c1 25 00 00 02 00 01", ""}, {"0f a3 ca", ""}, {"99", "2"},
+        {"0f cb", "3"}, {"89 ca", "2"}, {"8b ca", "1"}, {"89 0d 00 00 02 00", ""}, {"88 ca", "2"}, {"88 ce", "2"}, {"88 ea", "2"}, {"8a ca", "1"}, {"8a ea", "1"}, {"8a ee", "1"},
+        {"88 0d 00 00 02 00", ""}, {"8a 2d 00 00 02 00", "1"}, {"bb 00 00 00 00", "3"}, {"c7 c3 00 00 00 00", "3"}, {"c7 05 00 00 02 00 00 00 00 00", ""},
+        {"c6 c3 00", "3"}, {"c6 c7 00", "3"}, {"c6 05 00 00 02 00 00", ""}, {"87 ca", "1 2"}, {"87 0d 00 00 02 00", "1"}, {"8d 0a", "1"},
+        {"0f b6 ca", "1"}, {"0f b6 ce", "1"}, {"0f b6 f2", "6"}, {"0f be ca", "1"}, {"0f be fe", "7"}, {"0f 40 ca", "1"}, {"0f 4f 0d 00 00 02 00", "1"}, {"0f 92 c3", "3"},
+        {"0f 92 c7", "3"}, {"0f 92 05 00 00 02 00", ""}, {"90", ""}, {"f4", ""}, {"eb 7f", ""}, {"e9 00 01 00 00", ""}, {"72 7f", ""}, {"0f 82 00 01 00 00", ""},
+    };
+
+    private static void writers() {
+        for (String[] row : WRITERS) {
+            for (int r = 0; r < 8; r++) {
+                boolean writes = row[1].contains(Integer.toString(r));
+                String code = String.format("83 %02x 7f ", 0xE0 + r) + row[0];
+                String use = String.format("8b %02x 00 00 02 00", 0x80 + r);
+                if (r != 4) {
+                    check(code + use, writes ? 4 : 0, writes ? Probe.bytes(code).length : -1);
+                }
+            }
         }
+    }
+
+    private static void masksThatEnd() {
         refused(4, "83 e2 7f 99 |8b 82 00 00 02 00", "83 e2 7f f7 e1 |8b 82 00 00 02 00", "83 e2 7f f7 f9 |8b 82 00 00 02 00");
         refused(4, "83 e0 7f " + nops(29) + "|" + LOAD, nops(29) + "83 e0 7f |" + LOAD);
         refused(4, "83 e0 7f eb 00 |" + LOAD, "74 03 83 e0 7f |" + LOAD, "83 e0 7f |" + LOAD + "eb f8", "83 e0 7f 90 |" + LOAD + "0f 84 f4 ff ff ff");
@@ -103,12 +125,6 @@ public final class CheckTest {
     }
 
     private static void masksThatStay() {
-        String[] others = {"90", "41", "39 c8", "3b c1", "81 f8 00 00 00 00", "83 f8 00", "85 c0", "f7 c0 00 00 00 00", "0f a3 c8", "99",
-            "89 c1", "8b c8", "88 c1", "8a e8", "88 c7", "8d 08", "0f b6 c8", "0f 40 c8", "0f 94 c1", "0f 94 c5", "f4", "c6 c1 00", "0f af c8", "0f c9",
-            "70 10"};
-        for (String other : others) {
-            fine("83 e0 7f " + other + LOAD + nops(40));
-        }
         fine("83 e1 7f f7 e3 8b 81 00 00 02 00", "83 e0 7f " + nops(23) + LOAD);
         fine("eb 00 83 e0 7f " + LOAD);
         refused(6, "83 e0 7f " + LOAD + "|eb fb");
@@ -138,7 +154,7 @@ public final class CheckTest {
             "e9 02 00 00 00 89 c0 90");
         refused(6, "|eb 01 89 c0", "|eb fd", "|eb ff", "|e9 fb ff 00 00", "|e9 00 00 00 80", "|e9 ff ff ff 7f", "|74 01 89 c0",
             "|0f 84 01 00 00 00 89 c0", "89 c0 |eb fd", "|eb 02 89 c0 cc");
-        refused(6, "b8 00 00 00 00 90 |eb fb");
+        refused(6, "b8 00 00 00 00 90 |eb fb", "|eb 1e " + nops(29) + "b8 00 00 00 00", "|74 3e " + nops(61) + "89 c0");
     }
 
     private static void edges() {

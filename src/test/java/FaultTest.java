@@ -49,13 +49,30 @@ public final class FaultTest {
             "a = 'x' # ; @", "a = ('x'@", "a = {'x'@", "a = &@", "a = 'x'^@");
         faults(1, "@= 'x';", "@1 = 'x';", "a @'x';", "a# c\n@: b;", "a@.", "a =@= 'x';", "a = b @= c;",
             "a = 'x'; @;", "a = 'x';@/", "a = 'x' @);", "a = ('x'@;", "a = ('x' @};", "a = {'x' @);");
-        faults(1, "a = @?;", "a = / @*;", "a = &@;", "a = ! @/;", "a = 'x'^@0;", "a = 'x'^@ 2;",
+        faults(1, "a = @?;", "a = / @*;", "a = &@;", "a = ! @/;", "a = 'x'^@0;", "a = 'x'^@ 2;", "a = 'x'^@:;", "a = 'x'^@/;",
             "a = 'x'^2@2;", "a = 'x' ^@a;", "a = @\u00ff;", "a = @\u0000;", "a = @-;", "a = @];", "a = @\\x41;");
         fine("a=;", 1);
         fine("#c\na=#c\n;#c", 1);
         fine("# \u00e9 = ;'\n a\t=\r'x' / ;\n b = a ;", 2);
         fine("_ = a_9 ; a_9 = . ;", 2);
+        fine("azAZ_09 = zZ aA ; zZ = . ; aA = . ;", 3);
+        faults(1, "a@`b = ;", "a@{b = ;", "a@@b = ;", "a@[b = ;", "a@/b = ;", "a@:b = ;", "@` = ;", "@[ = ;", "@9a = ;");
+        behindTheEnd("a = 'x';", 7);
+        behindTheEnd("a = 'x'", 6);
+        behindTheEnd("a = [x]", 6);
+        behindTheEnd("a = 'x'^2;", 8);
+        behindTheEnd("ab = ;", 1);
         fine("a = & ! 'x' ^1 ? / ( ) { } /'y' ;", 1);
+    }
+
+    /** What end() cut off is not read, though it would go on well. */
+    private static void behindTheEnd(String text, int n) {
+        P.fresh();
+        P.tape(text);
+        P.due("end", P.house.end(n), n);
+        P.due("grammar " + text, P.house.grammar(), -1);
+        P.due("kind " + text, P.house.fault(0), 1);
+        P.due("place " + text, P.house.fault(1), n);
     }
 
     private static void malformedBytes() {

@@ -129,7 +129,11 @@ public final class ProcessorTest {
         {"c1 f8 1f", "eax=80000000", "eax=ffffffff f=84"},
         {"c1 f8 1f", "eax=7fffffff", "eax=0 f=45"},
         {"c1 c0 08", "eax=12345678 f=d4", "eax=34567812"},
+        {"c1 c0 08", "eax=f234567b", "eax=34567bf2"},
         {"c1 c8 24", "eax=12345678 f=d4", "eax=81234567 f=8d5"},
+        {"c1 c8 24", "eax=f234567b", "eax=bf234567 f=801"},
+        {"c1 c0 1f", "eax=80000003", "eax=c0000001 f=1"},
+        {"d3 c8", "eax=f234567b ecx=3f", "eax=e468acf7 f=1"},
         {"c1 e0 20", "eax=5 f=8d5", ""},
         {"c1 e0 00", "eax=0 f=8d5", ""},
         {"d3 e2", "edx=3 ecx=21 f=1", "edx=6 f=4"},
@@ -317,6 +321,7 @@ public final class ProcessorTest {
         for (String code : UNKNOWN) {
             stop(code, "eax=20000 ecx=20000 esp=20010", 4);
         }
+        lastBytes();
         placing();
         beginning();
         running();
@@ -399,6 +404,45 @@ public final class ProcessorTest {
         P.due("DATA " + what, P.house.load(0), 0);
         P.due("run again " + what, P.house.run(3), 0);
         state(what, state);
+    }
+
+    /** An M of four bytes fits where DATA ends, and not a byte further; an M of one byte likewise. */
+    private static void lastBytes() {
+        String[] four = {"01 08", "03 08", "81 00 | 00 00 00 00", "83 00 | 00", "ff 00", "ff 08", "85 08", "f7 00 | 00 00 00 00", "f7 10",
+            "f7 18", "f7 20", "f7 28", "f7 30", "f7 38", "0f af 08", "c1 20 | 01", "d1 20", "d3 20", "89 08", "8b 08", "c7 00 | 00 00 00 00",
+            "87 08", "0f 44 08", "0f 45 08", "ff 30", "ff 20", "ff 10"};
+        String[] one = {"88 08", "8a 08", "c6 00 | 00", "0f b6 08", "0f be 08", "0f 94 00"};
+        for (String code : four) {
+            edge(code, 4);
+        }
+        for (String code : one) {
+            edge(code, 1);
+        }
+    }
+
+    private static void edge(String code, int bytes) {
+        int[] offsets = {0, 65536 - bytes, -1, 65536 - bytes + 1};
+        for (int i = 0; i < offsets.length; i++) {
+            prepare(code.replace("| ", ""), "ecx=1 esp=20010 m20000=3 m2fffc=3000003");
+            P.house.put(0, 131072 + offsets[i]);
+            boolean fine = i < 2;
+            String what = code + " at " + offsets[i];
+            P.due("STEPS of " + what, P.house.run(1), fine ? 1 : 0);
+            P.due("STOP of " + what, P.house.get(10), fine ? 0 : 2);
+            check(code, 131072 + offsets[i], bytes, fine);
+        }
+    }
+
+    /** The same with a number alone in place of eax, in the CHECK. */
+    private static void check(String code, int place, int bytes, boolean fine) {
+        String[] halves = code.split(" [|] ");
+        String opcode = halves[0].substring(0, halves[0].length() - 2);
+        int second = Integer.parseInt(halves[0].substring(halves[0].length() - 2), 16) + 5;
+        String number = String.format("%02x %02x %02x %02x", place & 255, place >> 8 & 255, place >> 16 & 255, place >>> 24);
+        P.fresh();
+        P.code(opcode + String.format("%02x ", second) + number + (halves.length > 1 ? halves[1] : ""));
+        boolean stackOrJump = code.equals("ff 30") || code.equals("ff 20") || code.equals("ff 10");
+        P.due("check of " + code + " at " + place, P.house.check(0), stackOrJump ? 3 : fine ? 0 : 4);
     }
 
     private static void placing() {
