@@ -96,6 +96,9 @@ public final class RuleTest {
         first("a = [a-c\\]x];", "abcx]");
         first("a = [^\\x02-\\xff];", "\u0000\u0001");
         first("a = [];", "");
+        first("a = [\\n\\t\\r\\x0b\\'\\]\\-\\\\\\^];", "\n\t\r\u000b']-\\^");
+        first("a = '\\r' / '\\t' / '\\n' / '\\x9a' / '\\xa9' / '\\'';", "\r\t\n\u009a\u00a9'");
+        first("a = [ -\\'] / '\\\\' / ']' / '-' / [^\\x00-}\\x7f-\\xff];", " !\"#$%&'\\]-~");
         first("a = 'p'? 'q'* 'r' 's';", "pqr");
         first("a = &'p' 'q';", "q");
         first("a = !'p';", "");
