@@ -1020,7 +1020,17 @@ public final class MatchHouse {
                 at++;
             }
             for (int k = at; k < length && wrong == NONE && ahead() != ']'; k++) {
-                readItem(node);
+                int low = readByte(true);
+                boolean range = wrong == NONE && ahead() == '-';
+                at += range ? 1 : 0;
+                int spot = at;
+                int high = range ? readByte(true) : low;
+                if (high < low) {
+                    refuseAt(spot);
+                }
+                for (int b = low; wrong == NONE && b <= high; b++) {
+                    tree.addByte(node, b);
+                }
             }
             if (at >= length) {
                 refuseAt(length);
@@ -1033,24 +1043,6 @@ public final class MatchHouse {
                 tree.turnBytes(node);
             }
             return node;
-        }
-
-        private void readItem(int node) {
-            int low = readByte(true);
-            int high = low;
-            if (wrong == NONE && ahead() == '-') {
-                at++;
-                int spot = at;
-                high = readByte(true);
-                if (wrong == NONE && high < low) {
-                    refuseAt(spot);
-                }
-            }
-            if (wrong == NONE) {
-                for (int b = low; b <= high; b++) {
-                    tree.addByte(node, b);
-                }
-            }
         }
 
         /** The byte that is told, NONE if none is. */
@@ -1623,6 +1615,7 @@ public final class MatchHouse {
                     break;
                 case RET:
                     layReturn();
+                    goToEcx();
                     break;
                 case OPEN:
                 case CLOSE:
@@ -1688,7 +1681,6 @@ public final class MatchHouse {
             fit(12);
             withNumber(AND, EAX, 65520);
             withField(FROM_M, ECX, 0);
-            goToEcx();
         }
 
         private void layEvent(int what) {
@@ -2283,12 +2275,8 @@ public final class MatchHouse {
             System.arraycopy(bytes, 0, data, 0, Math.max(0, Math.min(length, bytes.length)));
         }
 
-        private static boolean isOutside(int at, int bytes) {
-            return at < 0 || at > FIELD - bytes;
-        }
-
         int readWord(int at) {
-            if (isOutside(at, 4)) {
+            if (at < 0 || at > FIELD - 4) {
                 return 0;
             }
             return data[at] & 255 | (data[at + 1] & 255) << 8 | (data[at + 2] & 255) << 16
@@ -2296,7 +2284,7 @@ public final class MatchHouse {
         }
 
         void writeWord(int at, int v) {
-            if (isOutside(at, 4)) {
+            if (at < 0 || at > FIELD - 4) {
                 return;
             }
             data[at] = (byte) v;
@@ -2341,6 +2329,10 @@ public final class MatchHouse {
                 eip = next;
             }
             return trouble;
+        }
+
+        private static boolean isOutside(int at, int bytes) {
+            return at < 0 || at > FIELD - bytes;
         }
 
         private int address() {
@@ -2399,7 +2391,7 @@ public final class MatchHouse {
                     move();
                     return 0;
                 case OF_STACK:
-                    return usesRoom() ? useStack() : STOP_MEMORY;
+                    return useStack();
                 default:
                     jump();
                     return 0;
@@ -2477,12 +2469,11 @@ public final class MatchHouse {
             return now.kind == Kind.POP || now.kind == Kind.RETURN;
         }
 
-        private boolean usesRoom() {
-            int top = registers[ESP] - (takesFromStack() ? 0 : 4);
-            return !isOutside(top - DATA_START, 4);
-        }
-
         private int useStack() {
+            int top = registers[ESP] - (takesFromStack() ? 0 : 4);
+            if (isOutside(top - DATA_START, 4)) {
+                return STOP_MEMORY;
+            }
             int behind = next;
             switch (now.kind) {
                 case POP:
@@ -2562,14 +2553,13 @@ public final class MatchHouse {
             int carry = flags & CARRY;
             switch (now.kind) {
                 case ALU_M_R:
-                    keepInM(arithmetic(readM(), registers[r]));
+                    writeM(arithmetic(readM(), registers[r]));
                     break;
                 case ALU_M_NUMBER:
-                    keepInM(arithmetic(readM(), now.number));
+                    writeM(arithmetic(readM(), now.number));
                     break;
                 case ALU_R_M:
-                    int result = arithmetic(registers[r], readM());
-                    registers[r] = now.which == CMP ? registers[r] : result;
+                    registers[r] = arithmetic(registers[r], readM());
                     break;
                 case INC:
                     writeM(add(readM(), 1, 0));
@@ -2596,12 +2586,7 @@ public final class MatchHouse {
             }
         }
 
-        private void keepInM(int result) {
-            if (now.which != CMP) {
-                writeM(result);
-            }
-        }
-
+        /** What comes to stand in the first of both: for cmp it is what stood there. */
         private int arithmetic(int a, int b) {
             int carry = flags & CARRY;
             switch (now.which) {
@@ -2615,10 +2600,13 @@ public final class MatchHouse {
                     return subtract(a, b, carry);
                 case 4:
                     return logic(a & b);
+                case 5:
+                    return subtract(a, b, 0);
                 case 6:
                     return logic(a ^ b);
                 default:
-                    return subtract(a, b, 0);
+                    subtract(a, b, 0);
+                    return a;
             }
         }
 
