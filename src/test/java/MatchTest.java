@@ -115,8 +115,8 @@ public final class MatchTest {
         P.fresh();
         P.grammar("a = '(' a ')' a / ;");
         P.subject("((()))()");
+        Machine machine = new Machine(P.house);
         for (int stack = 1; stack <= 12; stack++) {
-            Machine machine = new Machine(P.house);
             int want = machine.run("((()))()".getBytes(), 0, stack);
             P.due("match with " + stack, P.house.match(0, stack), want);
             P.due("peak with " + stack, P.house.peak(), Math.min(stack, machine.peak));
