@@ -134,7 +134,7 @@ public final class CheckTest {
     private static void wildJumps() {
         fine(GO, nops(18) + GO, "eb 00 " + GO, GO.replace("e0 ff 00 00", "00 00 00 00"), GO.replace("e0 ff 00 00", "20 00 00 00"),
             GO.replace("e1", "e7").replace("c1", "c7"));
-        refused(5, "|ff e0", "81 c1 00 00 01 00 |ff e1", nops(20) + "81 e1 e0 ff 00 00 81 c1 00 00 01 00 |ff e1");
+        refused(5, "|ff e0", "81 c0 00 00 01 00 |ff e0", "81 c1 00 00 01 00 |ff e1", nops(20) + "81 e1 e0 ff 00 00 81 c1 00 00 01 00 |ff e1");
         refused(5, "81 e1 e1 ff 00 00 81 c1 00 00 01 00 |ff e1", "81 e1 10 00 00 00 81 c1 00 00 01 00 |ff e1",
             "81 e1 00 00 01 00 81 c1 00 00 01 00 |ff e1", "81 e1 e0 ff ff ff 81 c1 00 00 01 00 |ff e1",
             "83 e1 20 81 c1 00 00 01 00 |ff e1", "81 e1 e0 ff 00 00 81 c1 00 00 02 00 |ff e1",
@@ -169,6 +169,13 @@ public final class CheckTest {
         P.due("run", P.house.run(1), 1);
         P.due("check again", P.house.check(0), 3);
         P.due("eip", P.house.get(9), 65537);
+        P.code("81 e0 e0 ff 00 00 83 e1 7f");
+        P.due("check of an and", P.house.check(0), 0);
+        P.code("81 c0 00 00 01 00 ff e0");
+        P.due("nothing of a code that was", P.house.check(0), 5);
+        P.code("8b 81 00 00 02 00");
+        P.due("no MASK of a code that was", P.house.check(0), 4);
+        P.code("90 c3");
         P.grammar("a = {'x'}* / [yz] !'q' &'r' a;");
         P.due("check of what is placed, not of the GRAMMAR", P.house.check(0), 3);
         P.due("arm", P.house.arm(0, 5), true);

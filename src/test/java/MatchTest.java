@@ -50,6 +50,10 @@ public final class MatchTest {
         P.due("arm at the end", P.house.arm(4, 1), true);
         P.due("ebx", P.house.get(3), 4);
         P.due("ebp", P.house.get(5), 1);
+        P.subject("");
+        P.due("arm", P.house.arm(0, 1), true);
+        P.due("nothing of a SUBJECT that was", P.house.load(0), 0);
+        P.due("the length", P.house.load(8192), 0);
     }
 
     private static void refused() {

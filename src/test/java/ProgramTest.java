@@ -12,6 +12,7 @@ public final class ProgramTest {
         rules();
         jumps();
         sets();
+        setsThatWere();
         edges();
         P.finish();
     }
@@ -159,6 +160,19 @@ public final class ProgramTest {
         for (int[] pair : none) {
             P.due("set " + pair[0] + " " + pair[1], P.house.set(pair[0], pair[1]), 0);
         }
+    }
+
+    private static void setsThatWere() {
+        P.fresh();
+        P.grammar("a = [ab] [bc] [cd] [de];");
+        P.grammar("a = [^ab] [^bc] [^cd];");
+        P.grammar("a = [xy];");
+        for (int k = 1; k < 5; k++) {
+            for (int w = 0; w < 8; w++) {
+                P.due("set " + k + " " + w, P.house.set(k, w), 0);
+            }
+        }
+        P.due("set 0", P.house.set(0, 3), 3 << 24);
     }
 
     private static void edges() {
