@@ -16,6 +16,7 @@ public final class MatchEdgeTest {
         eventsOfNone();
         peakOfNone();
         processorStays();
+        armedStays();
         allBytes();
         endOfSubject();
         P.finish();
@@ -329,6 +330,25 @@ public final class MatchEdgeTest {
         String before = Whole.text(P.house);
         P.due("can't be", P.house.match(-1, 9), -1);
         P.due("all behind it", Whole.text(P.house), before);
+    }
+
+    /** What has been ARMED is the PROCESSOR's own: a GRAMMAR or a SUBJECT that comes behind it changes none of it. */
+    private static void armedStays() {
+        house("a={[xy]}*;", "xyx");
+        P.due("arm", P.house.arm(1, 9), true);
+        P.due("grammar", P.grammar("b='q'/[rs]*;"), 1);
+        P.subject("rrrrr");
+        P.due("run", P.house.run(100000) > 0, true);
+        P.due("HLT", P.house.get(10), 1);
+        P.due("what the GRAMMAR that was has taken", P.house.get(0), 3);
+        P.due("of the SUBJECT that was", P.house.load(0), 0x787978);
+        P.due("no match()", P.house.event(0, 0), -1);
+        P.due("match of the new ones", P.house.match(1, 9), 4);
+        P.due("arm", P.house.arm(0, 9), true);
+        P.due("grammar with a FAULT", P.grammar("b=b;"), -1);
+        P.due("run", P.house.run(100000) > 0, true);
+        P.due("the GRAMMAR that stayed", P.house.get(0), 5);
+        P.due("match of the GRAMMAR that stayed", P.house.match(2, 9), 3);
     }
 
     private static void allBytes() {
