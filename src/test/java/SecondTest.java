@@ -1,0 +1,96 @@
+import java.util.ArrayList;
+import java.util.List;
+
+/** Promises 4 to 9 on many texts: FAULTS, traits, FIRST, PROGRAMS and SETS are those of a second reading. */
+public final class SecondTest {
+    private static final Probe P = new Probe();
+    private static final int[] KINDS = new int[6];
+
+    public static void main(String[] args) {
+        Peg.Dice dice = new Peg.Dice(29);
+        for (int round = 0; round < 4000; round++) {
+            compare(Second.random(dice));
+        }
+        large();
+        for (int kind = 0; kind < KINDS.length; kind++) {
+            P.due("texts with a FAULT of kind " + kind + " were seen", KINDS[kind] > 9, kind != 1);
+        }
+        P.finish();
+    }
+
+    /** Texts that are too large, and texts that just are not. */
+    private static void large() {
+        for (int many = 660; many <= 670; many++) {
+            compare("a=" + "{.}".repeat(many) + ";");
+            compare("a=" + ".?b".repeat(many / 3) + ";b='x'/'yz';");
+        }
+        for (int many = 493; many <= 503; many++) {
+            compare("a=" + ".?.*.".repeat(many) + ";");
+        }
+    }
+
+    private static void compare(String text) {
+        Second second = new Second(text);
+        P.fresh();
+        int answer = P.grammar(text);
+        boolean imageTooLarge = second.faultKind == 0 && P.house.fault(0) == 5;
+        if (imageTooLarge) {
+            P.due("an IMAGE that is too large " + text, new Layout(rows(second)).size > 61440, true);
+            KINDS[5]++;
+            return;
+        }
+        KINDS[second.faultKind]++;
+        P.due("grammar " + text, answer, second.faultKind == 0 ? second.roots.size() : -1);
+        P.due("kind " + text, P.house.fault(0), second.faultKind);
+        P.due("place " + text, P.house.fault(1), second.faultPlace);
+        if (second.faultKind != 0) {
+            return;
+        }
+        P.due("{ of " + text, P.house.count(4), second.captures);
+        for (int k = 0; k < second.roots.size(); k++) {
+            P.due("NULLABLE " + k + " " + text, P.house.rule(k, 0), second.nullable[k] ? 1 : 0);
+            P.due("SURE " + k + " " + text, P.house.rule(k, 1), second.sure[k] ? 1 : 0);
+            P.due("NOFAIL " + k + " " + text, P.house.rule(k, 2), second.nofail[k] ? 1 : 0);
+            P.due("entry " + k + " " + text, P.house.rule(k, 3), second.entries[k]);
+            for (int w = 0; w < 8; w++) {
+                P.due("FIRST " + w + " of " + k + " " + text, P.house.rule(k, 4 + w), Second.word(second.first[k], w));
+            }
+        }
+        P.due("SETS " + text, P.house.count(2), second.sets.size());
+        for (int k = 0; k < Math.min(20, second.sets.size()); k++) {
+            for (int w = 0; w < 8; w++) {
+                P.due("SET " + k + " " + w + " of " + text, P.house.set(k, w), Second.word(second.sets.get(k), w));
+            }
+        }
+        program(text, second);
+    }
+
+    private static int[][] rows(Second second) {
+        int[][] rows = new int[second.lines.size()][];
+        for (int i = 0; i < rows.length; i++) {
+            Second.Line line = second.lines.get(i);
+            rows[i] = new int[] {line.op, line.number, line.target == null ? -1 : line.target.place};
+        }
+        return rows;
+    }
+
+    private static void program(String text, Second second) {
+        int[][] rows = rows(second);
+        P.due("instructions of " + text, P.house.count(1), rows.length);
+        P.due("bytes of " + text, P.house.count(3), new Layout(rows).size);
+        List<String> got = new ArrayList<>();
+        List<String> want = new ArrayList<>();
+        int calls = 500;
+        for (int i = 0; i < rows.length; i++) {
+            if (calls > 480) {
+                P.fresh();
+                P.grammar(text);
+                calls = 4 + text.length() / 20;
+            }
+            calls += 3;
+            got.add(P.house.program(i, 0) + " " + P.house.program(i, 1) + " " + P.house.program(i, 2));
+            want.add(rows[i][0] + " " + rows[i][1] + " " + rows[i][2]);
+        }
+        P.due("the PROGRAM of " + text, got.toString(), want.toString());
+    }
+}
