@@ -13,6 +13,7 @@ public final class ImageEdgeTest {
         jumpsBack();
         anyTexts();
         byteEdges();
+        oneBehindAnother();
         P.due("a SHORT jump that just reaches ahead was seen", farthestAhead > 0, true);
         P.due("one that just does not was seen", missedAhead > 0, true);
         P.due("a SHORT jump that just reaches back was seen", farthestBack > 0, true);
@@ -113,6 +114,31 @@ public final class ImageEdgeTest {
         compare("a=" + "'xyz'/{[a-z]*}b?.".repeat(6) + ";b=('q'/'rs')*&'t'!'uv';");
         compare("a=" + "b ".repeat(100) + ";b={'x'}*;");
         compare("a=" + ".".repeat(700) + ";");
+    }
+
+    /** An IMAGE is the same, whatever GRAMMAR was in the house ahead of it: its jumps are SHORT at first. */
+    private static void oneBehindAnother() {
+        String[] texts = {"a=.;", "a=" + "{'x'}b".repeat(20) + ";b=[yz]*;", "a='x'?.?'y'?;", "a=" + "'xy'/".repeat(30) + ";", "a=[xy]*;", "a=({.}.?)*;",
+            "a=" + ".".repeat(200) + ";"};
+        for (String ahead : texts) {
+            for (String text : texts) {
+                P.fresh();
+                P.grammar(text);
+                int size = P.house.count(3);
+                int[] bytes = new int[150];
+                for (int i = 0; i < bytes.length; i++) {
+                    bytes[i] = P.house.image(i * Math.max(1, size / 150));
+                }
+                P.fresh();
+                P.grammar(ahead);
+                P.grammar(text);
+                String what = text + " behind " + ahead;
+                P.due("bytes of " + what, P.house.count(3), size);
+                for (int i = 0; i < bytes.length; i++) {
+                    P.due("byte " + i + " of " + what, P.house.image(i * Math.max(1, size / 150)), bytes[i]);
+                }
+            }
+        }
     }
 
     /** "Byte i of the IMAGE of the PROGRAM; NONE when there is none." */

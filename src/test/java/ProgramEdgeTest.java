@@ -9,6 +9,8 @@ public final class ProgramEdgeTest {
         leftRules();
         emptyLoops();
         orderOfKinds();
+        eachByteInCommon();
+        manyGrammars();
         instructionLimit();
         setLimit();
         setsInData();
@@ -112,6 +114,30 @@ public final class ProgramEdgeTest {
         fault(large + loop + leftOne, 3, all.indexOf("x=x"));
         fault(large + loop, 4, all.indexOf("*"));
         fault(large, 5, large.length());
+    }
+
+    /** "their FIRST have no byte in common": each byte alone can be the one; the next is not. */
+    private static void eachByteInCommon() {
+        for (int b = 0; b < 256; b++) {
+            fine(String.format("a='\\x%02x'.'x'/'\\x%02x''y';", b, b), 1);
+            P.due("a CHOICE with " + b + " in common", P.house.program(3, 0), 8);
+            fine(String.format("a='\\x%02x'.'x'/'\\x%02x''y';", b, (b + 1) % 256), 1);
+            P.due("none with " + b + " and the next", P.house.program(3, 0), 0);
+            P.due("but a TEST", P.house.program(2, 1), b);
+        }
+    }
+
+    /** A GRAMMAR is made the same, however many were ahead of it in the house. */
+    private static void manyGrammars() {
+        String text = "a=" + "&.".repeat(660) + ";";
+        P.fresh();
+        int size = 0;
+        for (int k = 0; k < 7; k++) {
+            P.due("grammar, time " + k, P.grammar(text), 1);
+            P.due("instructions, time " + k, P.house.count(1), 1983);
+            size = k == 0 ? P.house.count(3) : size;
+            P.due("bytes, time " + k, P.house.count(3), size);
+        }
     }
 
     /** "More than 2000 instructions .. too large", "(told at the text's length)". */

@@ -5,6 +5,8 @@ import java.util.List;
 public final class SecondTest {
     private static final Probe P = new Probe();
     private static final int[] KINDS = new int[6];
+    /** How often each op's place was at each byte of a BUNDLE. */
+    private static final int[][] OFFSETS = new int[19][32];
 
     public static void main(String[] args) {
         Peg.Dice dice = new Peg.Dice(29);
@@ -77,7 +79,8 @@ public final class SecondTest {
     private static void program(String text, Second second) {
         int[][] rows = rows(second);
         P.due("instructions of " + text, P.house.count(1), rows.length);
-        P.due("bytes of " + text, P.house.count(3), new Layout(rows).size);
+        Layout layout = new Layout(rows);
+        P.due("bytes of " + text, P.house.count(3), layout.size);
         List<String> got = new ArrayList<>();
         List<String> want = new ArrayList<>();
         int calls = 500;
@@ -87,9 +90,10 @@ public final class SecondTest {
                 P.grammar(text);
                 calls = 4 + text.length() / 20;
             }
-            calls += 3;
-            got.add(P.house.program(i, 0) + " " + P.house.program(i, 1) + " " + P.house.program(i, 2));
-            want.add(rows[i][0] + " " + rows[i][1] + " " + rows[i][2]);
+            calls += 4;
+            got.add(P.house.program(i, 0) + " " + P.house.program(i, 1) + " " + P.house.program(i, 2) + " at " + P.house.program(i, 3));
+            want.add(rows[i][0] + " " + rows[i][1] + " " + rows[i][2] + " at " + layout.places[i]);
+            OFFSETS[rows[i][0]][layout.places[i] % 32]++;
         }
         P.due("the PROGRAM of " + text, got.toString(), want.toString());
     }

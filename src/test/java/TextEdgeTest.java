@@ -239,6 +239,9 @@ public final class TextEdgeTest {
         }
         malformed("a=[b-@a];", "a=[\\]-@\\\\];", "a=[~-@}];", "a=[z-@\\n];", "a=[\\xff-@~];", "a=[!-@ ];", "a=[ab-cz-@a];", "a=[^b-@a];");
         fine("a=[ -~!-~a-a\\\\-\\]\\--.\\^-_];", 1);
+        malformed("a=[A-@];", "a=[A-@]", "a=[+-@-];", "a=[+-@-", "a=[\\x00-@];");
+        fine("a=[ -'];", 1);
+        P.due("from the blank to the '", P.house.rule(0, 5), 255);
         malformed("a=[@-a];", "a=[a-@];", "a=[a-b@-c];", "a=[a-@-b];", "a=[a@\t-b];", "a=[a-@\tb];");
         fine("a=[a -b];", 1);
         P.due("from the blank to b", P.house.rule(0, 5), -1);
