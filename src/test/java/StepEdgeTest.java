@@ -20,6 +20,11 @@ public final class StepEdgeTest {
         singleShifts();
         manyShifts();
         bits();
+        conditions();
+        everyRegister();
+        everyPair();
+        everyByteRegister();
+        everyAddress();
         addresses();
         stackEdges();
         codeEdges();
@@ -301,6 +306,195 @@ public final class StepEdgeTest {
                 }
             }
         }
+    }
+
+    /** "c: 0 O, 2 C, 4 Z, 6 C or Z, ..; an odd c: not what c - 1 is", with all FLAGS that there can be. */
+    private static void conditions() {
+        for (int c = 0; c < 16; c++) {
+            String[] codes = {String.format("%02x 10", 0x70 + c), String.format("0f %02x 10 00 00 00", 0x80 + c), String.format("0f %02x c1", 0x40 + c),
+                String.format("0f %02x c0", 0x90 + c)};
+            for (String hex : codes) {
+                code(hex);
+                int size = Probe.bytes(hex).length;
+                for (int k = 0; k < 64; k++) {
+                    int flags = (k & 1) + (k & 2) * 2 + (k & 4) * 4 + (k & 8) * 8 + (k & 16) * 8 + (k & 32) * 64;
+                    boolean so = (flags & 128) != 0 != ((flags & 2048) != 0);
+                    boolean[] even = {(flags & 2048) != 0, (flags & 1) != 0, (flags & 64) != 0, (flags & 65) != 0, (flags & 128) != 0, (flags & 4) != 0, so,
+                        so || (flags & 64) != 0};
+                    boolean holds = even[c / 2] != (c % 2 == 1);
+                    P.due("STEPS", step(hex, 0x1200, 77, 5, flags), 1);
+                    boolean jumps = hex.equals(codes[0]) || hex.equals(codes[1]);
+                    P.due("eip of " + hex + " with " + flags, P.house.get(9), 65536 + size + (jumps && holds ? 16 : 0));
+                    int moved = hex.equals(codes[2]) ? 77 : 0x1201;
+                    due(hex + " with " + flags, !jumps && holds ? moved : 0x1200, 5, flags);
+                }
+            }
+        }
+    }
+
+    private static int[] registers() {
+        int[] values = new int[8];
+        for (int k = 0; k < 8; k++) {
+            values[k] = 0x81C3A5E7 * (k + 3);
+        }
+        return values;
+    }
+
+    private static void putAll(int[] values) {
+        for (int k = 0; k < 8; k++) {
+            P.house.put(k, values[k]);
+        }
+    }
+
+    private static void dueAll(String what, int[] values) {
+        for (int k = 0; k < 8; k++) {
+            P.due("get " + k + " of " + what, P.house.get(k), values[k]);
+        }
+    }
+
+    /** "+r in the byte": each of the eight registers, and no other. */
+    private static void everyRegister() {
+        for (int r = 0; r < 8; r++) {
+            int[] opcodes = {0x40, 0x48, 0xB8, 0x50, 0x58, 0x0F};
+            for (int opcode : opcodes) {
+                String hex = opcode == 0x0F ? String.format("0f %02x", 0xC8 + r) : String.format("%02x", opcode + r) + (opcode == 0xB8 ? "78 56 34 12" : "");
+                code(hex);
+                int[] values = registers();
+                values[4] = 140000;
+                putAll(values);
+                P.house.store(140000 - 131072, 0x11223344);
+                P.due("STEPS of " + hex, P.house.run(1), 1);
+                int pushed = values[r];
+                switch (opcode) {
+                    case 0x40 -> values[r]++;
+                    case 0x48 -> values[r]--;
+                    case 0xB8 -> values[r] = 0x12345678;
+                    case 0x50 -> values[4] -= 4;
+                    case 0x58 -> {
+                        values[4] += 4;
+                        values[r] = 0x11223344;
+                    }
+                    default -> values[r] = Integer.reverseBytes(values[r]);
+                }
+                dueAll(hex, values);
+                P.due("what is below of " + hex, P.house.load(139996 - 131072), opcode == 0x50 ? pushed : 0);
+                P.due("eip of " + hex, P.house.get(9), 65536 + Probe.bytes(hex).length);
+            }
+        }
+    }
+
+    /** M a register, and r: each with each. */
+    private static void everyPair() {
+        String[] opcodes = {"89", "8b", "87", "01", "2b", "0f af", "0f 41", "31"};
+        for (String opcode : opcodes) {
+            for (int second = 0xC0; second < 0x100; second++) {
+                int r = second / 8 % 8;
+                int b = second % 8;
+                String hex = opcode + String.format(" %02x", second);
+                code(hex);
+                int[] values = registers();
+                putAll(values);
+                P.due("STEPS of " + hex, P.house.run(1), 1);
+                int m = values[b];
+                int v = values[r];
+                switch (opcode) {
+                    case "89" -> values[b] = v;
+                    case "8b", "0f 41" -> values[r] = m;
+                    case "87" -> {
+                        values[b] = v;
+                        values[r] = m;
+                    }
+                    case "01" -> values[b] = m + v;
+                    case "2b" -> values[r] = v - m;
+                    case "0f af" -> values[r] = v * m;
+                    default -> values[b] = m ^ v;
+                }
+                dueAll(hex, values);
+            }
+        }
+    }
+
+    /** "the lowest bytes of 0 .. 3 are the byte registers 0 .. 3, the bytes above those 4 .. 7". */
+    private static void everyByteRegister() {
+        String[] opcodes = {"88", "8a", "0f b6", "0f be", "0f 91", "c6"};
+        for (String opcode : opcodes) {
+            for (int second = 0xC0; second < 0x100; second++) {
+                int r = second / 8 % 8;
+                int b = second % 8;
+                boolean alone = opcode.equals("0f 91") || opcode.equals("c6");
+                if (alone && r != 0) {
+                    continue;
+                }
+                String hex = opcode + String.format(" %02x", second) + (opcode.equals("c6") ? " 9a" : "");
+                code(hex);
+                int[] values = registers();
+                putAll(values);
+                P.due("STEPS of " + hex, P.house.run(1), 1);
+                int m = byteOf(values, b);
+                switch (opcode) {
+                    case "88" -> setByte(values, b, byteOf(values, r));
+                    case "8a" -> setByte(values, r, m);
+                    case "0f b6" -> values[r] = m;
+                    case "0f be" -> values[r] = m >= 128 ? m - 256 : m;
+                    case "0f 91" -> setByte(values, b, 1);
+                    default -> setByte(values, b, 0x9A);
+                }
+                dueAll(hex, values);
+            }
+        }
+    }
+
+    private static int byteOf(int[] values, int r) {
+        return r < 4 ? values[r] & 255 : values[r - 4] >> 8 & 255;
+    }
+
+    private static void setByte(int[] values, int r, int v) {
+        if (r < 4) {
+            values[r] = values[r] & 0xFFFFFF00 | v;
+        } else {
+            values[r - 4] = values[r - 4] & 0xFFFF00FF | v << 8;
+        }
+    }
+
+    /** "M: the second byte's upper two bits mode, next three r, lower three b": each, with each third byte. */
+    private static void everyAddress() {
+        for (int second = 0; second < 0xC0; second++) {
+            int b = second % 8;
+            for (int third = 0; third < (b == 4 ? 256 : 1); third += second / 8 % 8 == 0 ? 1 : 37) {
+                address(second, third);
+            }
+        }
+    }
+
+    private static void address(int second, int third) {
+        int mode = second / 64;
+        int r = second / 8 % 8;
+        int b = second % 8;
+        String hex = String.format("8d %02x ", second) + (b == 4 ? String.format("%02x ", third) : "");
+        int[] values = registers();
+        int base = b == 4 ? third % 8 : b;
+        int sum = mode == 0 && base == 5 ? 0 : values[base];
+        if (b == 4 && third / 8 % 8 != 4) {
+            sum += values[third / 8 % 8] * (1 << third / 64);
+        }
+        if (mode == 1) {
+            hex += "9c";
+            sum -= 100;
+        } else if (mode == 2 || base == 5) {
+            hex += number(0x8899AABB);
+            sum += 0x8899AABB;
+        }
+        left -= 40;
+        if (left < 40) {
+            P.fresh();
+            left = 480;
+        }
+        P.code(hex);
+        putAll(values);
+        P.due("STEPS of " + hex, P.house.run(1), 1);
+        values[r] = sum;
+        dueAll(hex, values);
+        P.due("eip of " + hex, P.house.get(9), 65536 + Probe.bytes(hex).length);
     }
 
     /** "Sums are modulo 2 to the 32": of addresses, with and without a third byte, and lea's. */
