@@ -17,6 +17,7 @@ public final class CheckEdgeTest {
         goAndGoals();
         goals();
         goalsOfAll();
+        nothingOfACodeThatWas();
         fullImage();
         firstThatIsRefused();
         P.finish();
@@ -402,6 +403,27 @@ public final class CheckEdgeTest {
         refused(4, "83 e0 10 |" + use + "50 eb f7");
         refused(1, "83 e0 10 " + use + "|cc eb f7");
         refused(1, "83 e0 10 " + use + "|0f eb f7");
+    }
+
+    /** A CHECK begins anew: no and, add, MASK, GOAL or beginning of a code that was checked before counts. */
+    private static void nothingOfACodeThatWas() {
+        String and = "81 e1 e0 ff 00 00 ";
+        String add = "81 c1 00 00 01 00 ";
+        String use = "8b 81 00 00 02 00 ";
+        String[][] pairs = {{and + add, "ff e1", "5 0"}, {and, add + "ff e1", "5 6"}, {"83 e1 10", use, "4 0"}, {"90 90 90 90", "eb 01 b8 00 00 00 00", "6 0"},
+            {"eb 01 90 90", "83 e1 10 " + use, "0 -1"}, {"90 eb 00 90", "83 e1 10 " + use, "0 -1"}, {and + add + "eb f8", and + add + "ff e1", "0 -1"},
+            {"cc", "90", "0 -1"}, {"90 c3", "90 90", "0 -1"}, {nops(40) + "c3", "90", "0 -1"}, {"90", "cc", "1 0"}, {"50", "", "0 -1"}};
+        for (String[] pair : pairs) {
+            P.fresh();
+            P.code(pair[0]);
+            P.house.check(0);
+            P.code(pair[1]);
+            P.due("check of " + pair[1] + " behind " + pair[0], P.house.check(0) + " " + P.house.check(1), pair[2]);
+            P.fresh();
+            P.code(pair[1]);
+            P.due("check of " + pair[1], P.house.check(0) + " " + P.house.check(1), pair[2]);
+        }
+        left = 0;
     }
 
     /** An IMAGE of 4000 bytes, refused at its last byte, or not at all. */
