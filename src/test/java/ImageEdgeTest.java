@@ -93,7 +93,7 @@ public final class ImageEdgeTest {
             compare("a=.?(.." + ".".repeat(many) + ")*;");
         }
         String[] just = {"a='xy'*&.(..?{})*;c=.;", "a=[xy]c&[xy](..?.?.*)*!.'x'{.}[xy]?;c=.;", "a='xy'*!..*{}.(.'x'?.?)*;c=.;",
-            "a=![xy][xy]*'x'?'xy'*(..?'x'?)*'x';c=.;"};
+            "a=![xy][xy]*'x'?'xy'*(..?'x'?)*'x';c=.;", "a=&(.*.);c=.;"};
         for (String text : just) {
             compare(text);
         }

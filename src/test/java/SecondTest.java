@@ -4,6 +4,8 @@ import java.util.List;
 /** Promises 4 to 9 on many texts: FAULTS, traits, FIRST, PROGRAMS and SETS are those of a second reading. */
 public final class SecondTest {
     private static final Probe P = new Probe();
+    /** GRAMMARS that are in the house before, so that nothing of them may count. */
+    private static final String[] AHEAD = {"q=;", "q=" + "()".repeat(60) + ";", "q=" + "(.'x'/.'y')".repeat(9) + ";", "q=" + "{.*}[ab]".repeat(9) + ";"};
     private static final int[] KINDS = new int[6];
     /** How often each op's place was at each byte of a BUNDLE. */
     private static final int[][] OFFSETS = new int[19][32];
@@ -13,11 +15,22 @@ public final class SecondTest {
         for (int round = 0; round < 4000; round++) {
             compare(Second.random(dice));
         }
+        leastWhateverWas();
         large();
         for (int kind = 0; kind < KINDS.length; kind++) {
             P.due("texts with a FAULT of kind " + kind + " were seen", KINDS[kind] > 9, kind != 1);
         }
         P.finish();
+    }
+
+    /** "The following are the least that are so", though all nodes of the GRAMMAR before were NULLABLE. */
+    private static void leastWhateverWas() {
+        String[] texts = {"z=a z;a=a;", "z=a z;a=b;b=a;", "z=a z 'x';y=b y;a=b;b=a;", "z=(a)z?;a=a a;", "z={a}z;a={a};", "z='x'z;", "z='x'/'y'z;", "z='x'y;y='z'z;"};
+        for (String text : texts) {
+            for (int pad = 0; pad < AHEAD.length; pad++) {
+                compare(text + " ".repeat(pad));
+            }
+        }
     }
 
     /** Texts that are too large, and texts that just are not. */
@@ -34,6 +47,7 @@ public final class SecondTest {
     private static void compare(String text) {
         Second second = new Second(text);
         P.fresh();
+        P.grammar(AHEAD[text.length() % AHEAD.length]);
         int answer = P.grammar(text);
         boolean imageTooLarge = second.faultKind == 0 && P.house.fault(0) == 5;
         if (imageTooLarge) {
