@@ -1,6 +1,7 @@
 /**
  * "MALFORMED: at the first byte with which no GRAMMAR goes on (the text's length, if more must come)": what is told
- * of a text and of all its beginnings goes together, for many texts with a byte that is another, gone or more.
+ * of a text and of all its beginnings goes together, for many texts with a byte that is another, gone or more; and
+ * it is what an automaton tells that sees the text byte by byte.
  */
 public final class MalformedTest {
     private static final Probe P = new Probe();
@@ -25,7 +26,57 @@ public final class MalformedTest {
         }
         P.due("enough that are MALFORMED", malformed > 100, true);
         P.due("enough that are not", fine > 50, true);
+        byAutomaton(new Peg.Dice(54));
         P.finish();
+    }
+
+    private static void byAutomaton(Peg.Dice dice) {
+        int fine = 0;
+        for (int round = 0; round < 24000; round++) {
+            StringBuilder text = switch (round % 6) {
+                case 0 -> noise(dice);
+                case 1 -> new StringBuilder(Second.random(dice)).append(manyRules(dice));
+                case 2 -> deep(dice);
+                default -> new StringBuilder(Second.random(dice));
+            };
+            for (int k = dice.below(4); k > 0 && text.length() > 0; k--) {
+                change(text, dice);
+            }
+            text.setLength(Math.min(text.length(), 2000));
+            int due = Automaton.place(text.toString());
+            fine += due < 0 ? 1 : 0;
+            P.due("place in " + text, place(text.toString()), due);
+        }
+        P.due("enough that are fine", fine > 3000 && fine < 12000, true);
+    }
+
+    private static StringBuilder noise(Peg.Dice dice) {
+        StringBuilder text = new StringBuilder("a=");
+        for (int k = dice.below(60); k > 0; k--) {
+            text.append(BYTES.charAt(dice.below(BYTES.length())));
+        }
+        return text;
+    }
+
+    /** So many that some texts have 60 RULES and some more; now and then a NAME is too long. */
+    private static String manyRules(Peg.Dice dice) {
+        StringBuilder text = new StringBuilder();
+        for (int k = 50 + dice.below(12); k > 0; k--) {
+            text.append("n").append(k).append("0123456789abcdefghi", 0, dice.below(20) == 0 ? 17 + dice.below(3) : 0).append("=.;");
+        }
+        return text.toString();
+    }
+
+    private static StringBuilder deep(Peg.Dice dice) {
+        StringBuilder text = new StringBuilder("q=");
+        StringBuilder end = new StringBuilder(";");
+        for (int k = 36 + dice.below(8); k > 0; k--) {
+            int kind = dice.below(4);
+            text.append("&!({".charAt(kind));
+            end.insert(0, kind < 2 ? "" : kind == 2 ? ")" : "}");
+            text.append(dice.below(9) == 0 ? " . " : "");
+        }
+        return text.append(".").append(end);
     }
 
     private static void change(StringBuilder text, Peg.Dice dice) {
